@@ -373,10 +373,11 @@ public final class GrooveHouse {
         if (set == NONE) {
             return NONE;
         }
+        // One bit is left: the bits below it are as many as its number.
         switch (what) {
             case 0: return choice.trialsOf(set);
             case 1: return choice.costOf(set);
-            default: return Integer.numberOfTrailingZeros(all & ~choice.refutedBy(set));
+            default: return Integer.bitCount((all & ~choice.refutedBy(set)) - 1);
         }
     }
 
@@ -1386,7 +1387,7 @@ public final class GrooveHouse {
         /** Rows stand in the order of the trials: the lowest bit that just one has is the lower trial. */
         private static boolean goesBefore(int set, int other) {
             int unlike = set ^ other;
-            return (set & Integer.lowestOneBit(unlike)) != 0;
+            return (set & unlike & -unlike) != 0;
         }
 
         int refutedBy(int set) {

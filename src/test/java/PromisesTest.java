@@ -132,6 +132,13 @@ public final class PromisesTest {
             fault(text, 0, NONE);
             fault(text, 1, text.indexOf('g'));
         }
+        fault("g:t=[[[[[[1]]]]]]&[[[[[[2]]]]]]=3|[[[[[[4]]]]]]=5?[[[[[[6]]]]]]", 0, NONE);
+        fault("g:1;".repeat(29) + "d:1", 0, NONE);
+        fault("g:1;".repeat(30), 0, 120);
+        fault("g:" + "1+".repeat(59), 0, 120);
+        fault("g: " + "1*".repeat(58) + "1", 0, NONE);
+        fault("g:" + "t".repeat(118), 0, 3);
+        fault(" ".repeat(120), 0, 120);
         fault("y:t*s-r+w/z*a+b", 1, NONE);
         fault("y:t=1?a;y:b", 1, NONE);
         fault("y:1", 0, 0);
@@ -144,7 +151,9 @@ public final class PromisesTest {
             {"g:t=1?t=2", 7}, {"g:t=1?(1)", 6}, {"g:[[[[[[[1", 8}, {"g:(((((([t]=1))))))?1", 8}, {"g:!!!!!![t]=1?2", 8},
             {"g:!(!(!(!t=1)))?1", 8}, {"G:1", 0}, {"\tg:1", 0}, {"g:1)", 3}, {"g:1]", 3}, {"g:t&x=1?2", 3},
             {"g:(t=1]?2", 6}, {"gd:1", 1}, {"g;1", 1}, {"g:t= =1?2", 5}, {"g:1*/2", 4}, {"g:[]", 3}, {"g:()?1", 3},
-            {"g:t==1?2", 4}, {"g:t=1??2", 6}, {"g:1?2", 3}, {"g:t=1|&t=2?3", 6},
+            {"g:t==1?2", 4}, {"g:t=1??2", 6}, {"g:1?2", 3}, {"g:t=1|&t=2?3", 6}, {"g:t=1|?2", 6}, {"g:t=1?2*;d:3", 8},
+            {"g:t=?2", 4}, {"g:1*;d:1", 4}, {"g:t=1?[[[[[[[1", 12}, {"g:t=[[[[[[[1", 10}, {"g:t=1&[[[[[[[1", 12},
+            {"g:t=1|[[[[[[[1", 12}, {"g:1<12345?6", 8},
         };
         for (Object[] one : bad) {
             fault((String) one[0], 0, (Integer) one[1]);
@@ -213,6 +222,12 @@ public final class PromisesTest {
         way("g:!t=1&t<2?9;g:1", 2, 9 + 10, 10);
         way("g:!(t=1&t<2)?9;g:1", 2, 9 + 10, 10);
         way("g:t>0?5;d:2;g:t=0?4", 2, 4 + 9, 9);
+        way("g:!t=0|t=0?4;g:9", 2, 4 + 8, 8);
+        way("g:!!!t=0?4;g:9", 2, 9 + 13, 13);
+        way("g:!!t=0&!!t<5?4;g:9", 2, 4 + 13, 13);
+        way("g: " + "1+".repeat(58) + "1", 1, 59, 59);
+        way("g:0<1&" + "[1]=1&".repeat(18) + "3=3?7", 1, 7, 7);
+        way("d:1;".repeat(29) + "g:6", 1, 6, 6);
         way("g:[0-3]*2<[0-5]?4;g:6", 1, 4, 4);
         GrooveHouse x = ruled("g:1");
         int[][] none = {{1, 0, 0, 1}, {-1, 0, 0, 1}, {0, 1, 0, 1}, {0, -1, 0, 1}, {0, 0, 2, 1}, {0, 0, -1, 1},
@@ -234,8 +249,13 @@ public final class PromisesTest {
         due(12, "place 1", x.click(1, 0, 0, 1), 1);
         due(12, "just reached", x.click(1, 0, 0, 30), 2);
         due(12, "just missed", x.click(1, 0, 0, 31), 3);
+        x.ball(2, 30);
+        due(12, "weight does not count", x.click(1, 1, 0, 30), 2);
+        due(11, "another ball on another beam", x.speed(1, 1, 1, 2), 32);
+        due(13, "another ball", x.fall(2, 1, 302), 1);
+        due(13, "another ball", x.fall(2, 1, 303), 2);
         due(12, "no such law", x.click(4, 0, 0, 1), NONE);
-        due(12, "no such ball", x.click(0, 1, 0, 1), NONE);
+        due(12, "no such ball", x.click(0, 2, 0, 1), NONE);
         due(12, "no such beam", x.click(0, 0, 2, 1), NONE);
         due(13, "the last tick", x.fall(0, 0, 1000), 1000);
         due(13, "no click", x.fall(0, 0, 1001), NONE);
@@ -245,10 +265,11 @@ public final class PromisesTest {
         due(13, "weight and size", x.fall(2, 0, 74), 2);
         due(13, "it never falls", x.fall(3, 0, 1), NONE);
         due(13, "height 0", x.fall(0, 0, 0), NONE);
+        due(13, "height 1", x.fall(0, 0, 1), 1);
         due(13, "too high", x.fall(1, 0, 12001), NONE);
         due(13, "the highest", x.fall(1, 0, 12000), 15);
         due(13, "no such law", x.fall(4, 0, 1), NONE);
-        due(13, "no such ball", x.fall(0, 1, 1), NONE);
+        due(13, "no such ball", x.fall(0, 2, 1), NONE);
         GrooveHouse y = ruled("g:3");
         due(13, "without d", y.fall(0, 0, 30), 2);
     }
@@ -306,7 +327,8 @@ public final class PromisesTest {
         x.trial(0, 1, 1, 20, 0, 1, 0);
         due(16, "ball", x.told(3, 1), 1);
         due(16, "beam", x.told(3, 2), 1);
-        for (int i = 4; i < 30; i++) {
+        due(15, "an empty bucket", x.trial(1, 1, 1, 20, 0, 1, 0), 4);
+        for (int i = 5; i < 30; i++) {
             due(15, "trial", x.trial(0, 0, 0, 5, 0, 1, 0), i);
         }
         due(15, "a thirty-first trial", x.trial(0, 0, 0, 5, 0, 1, 0), NONE);
@@ -372,6 +394,7 @@ public final class PromisesTest {
         due(19, "all letters", x.value(0, 30, 4, 0, 0, 1), 9000 + 12000 + 200 + 70 + 3 + 30 - 4);
         due(19, "there is one", x.value(1, 0, 0, 0, 0, 4), 1);
         due(19, "there is none", x.value(1, 0, 0, 0, 0, 5), HIDDEN);
+        due(19, "tick 0", x.value(1, 30, 30, 0, 0, 0), 1);
         due(19, "a million at most", x.value(2, 0, 0, 0, 0, 1000), 1000000);
         int[][] none = {{3, 0, 0, 0, 0, 0}, {-1, 0, 0, 0, 0, 0}, {1, 31, 0, 0, 0, 0}, {1, -1, 0, 0, 0, 0},
             {1, 0, 31, 0, 0, 0}, {1, 0, -1, 0, 0, 0}, {1, 0, 0, 1, 0, 0}, {1, 0, 0, 0, 1, 0}, {1, 0, 0, 0, 0, -1},
@@ -388,6 +411,9 @@ public final class PromisesTest {
         guess(x, "y:a*2+b*2+100");
         x.trial(0, 0, 0, 5, 0, 1, 0);
         due(20, "nothing written", x.fits(0, NONE), 961);
+        due(20, "one asked for first", x.fits(1, 7), 7);
+        due(20, "one before it", x.fits(1, 2), 2);
+        due(20, "all of them", x.fits(1, NONE), 961);
         due(20, "the last", x.fits(0, 960), 960);
         due(20, "none behind it", x.fits(0, 961), NONE);
         x.write(0, 3);
@@ -422,6 +448,8 @@ public final class PromisesTest {
         due(20, "1,001 is no tick", x.fits(2, NONE), 961);
         x.write(0, 1000);
         due(20, "1,000 is one", x.fits(2, NONE), 0);
+        x.write(0, 1);
+        due(20, "1 is one", x.fits(2, NONE), 0);
         x.write(0, NONE);
         due(20, "not written any more", x.fits(2, NONE), 961);
         due(22, "all are left", x.left(), 7);
@@ -457,7 +485,7 @@ public final class PromisesTest {
             due(23, "tick that parts " + d[0] + ", " + d[1], x.parts(d[0], d[1], 0, 0, d[2], 0), d[3]);
             due(23, "how far are " + d[0] + ", " + d[1], x.parts(d[0], d[1], 0, 0, d[2], 1), d[4]);
         }
-        int[][] none = {{7, 0, 0, 0, 5, 0}, {0, 7, 0, 0, 5, 0}, {0, 1, 1, 0, 5, 0}, {0, 1, 0, 1, 5, 0},
+        int[][] none = {{8, 0, 0, 0, 5, 0}, {0, 8, 0, 0, 5, 0}, {0, 1, 1, 0, 5, 0}, {0, 1, 0, 1, 5, 0},
             {0, 1, 0, 0, 0, 0}, {0, 1, 0, 0, 1001, 0}, {0, 1, 0, 0, 5, 2}, {0, 1, 0, 0, 5, -1}, {-1, 1, 0, 0, 5, 0}};
         for (int[] n : none) {
             due(23, "no such ones", x.parts(n[0], n[1], n[2], n[3], n[4], n[5]), NONE);
@@ -466,6 +494,10 @@ public final class PromisesTest {
         x.write(0, 5);
         due(23, "by the first fit", x.parts(0, 4, 0, 0, 9, 1), 81 - 25);
         due(23, "at", x.parts(0, 4, 0, 0, 9, 0), 9);
+        guess(x, "y:a*t+b");
+        due(23, "the first fit is 0 and 25", x.parts(7, 7, 0, 0, 9, 1), 0);
+        due(23, "the first fit is 0 and 25", x.parts(7, 0, 0, 0, 10, 1), 75);
+        due(23, "the first fit is 0 and 25", x.parts(0, 7, 0, 0, 5, 1), 24);
         due(23, "one has no fits", x.parts(0, 1, 0, 0, 9, 0), NONE);
         due(23, "the other has none", x.parts(1, 0, 0, 0, 9, 0), NONE);
     }
@@ -487,6 +519,10 @@ public final class PromisesTest {
         x.trial(0, 0, 0, 30, 0, 1, 10);
         due(24, "by every trial", x.worlds(0, 0, 0), 1);
         due(24, "one without worth", x.worlds(2, 0, 0), 0);
+        GrooveHouse y = ruled("g:10");
+        guess(y, "y:a");
+        y.trial(0, 0, 0, 60, 0, 1, 0);
+        due(24, "one trial", y.worlds(0, 30, 0), 0);
         due(24, "no such guess", x.worlds(4, 0, 0), NONE);
         due(24, "no such pair", x.worlds(0, 31, 0), NONE);
         due(24, "no such pair", x.worlds(0, 0, -1), NONE);
@@ -552,6 +588,16 @@ public final class PromisesTest {
         due(26, "no guesses", z.cheapest(0, 0), NONE);
         guess(z, "y:1");
         cheap(z, "one guess", 0, 0, 0);
+        law(z, "g:0");
+        z.trial(0, 0, 0, 10, 0, 3, 0);
+        guess(z, "y:a+b+t");
+        due(26, "both are refuted, 0 and 0 are pinned", z.cheapest(0, 0), NONE);
+        z.pin(1, 4, 5);
+        cheap(z, "but not by 4 and 5", 1, 3, 1);
+        due(26, "what does not click refutes nothing", z.cheapest(1, 0), NONE);
+        z.pin(1, 0, 0);
+        guess(z, "y:10-a");
+        cheap(z, "a third, by 0 and 0 again", 1, 3, 2);
     }
 
     private static void strings() {
@@ -562,6 +608,7 @@ public final class PromisesTest {
         due(27, "even ways", x.odd(1, 0, 0, 1, 6, 0), 1);
         due(27, "with an ear of 4", x.odd(1, 0, 0, 1, 6, 4), 3);
         due(27, "with an ear of 3", x.odd(1, 0, 0, 1, 6, 3), 2);
+        due(27, "one string", x.odd(1, 0, 0, 1000, 1, 100), 1);
         due(27, "a thousand ticks", x.odd(1, 0, 0, 200, 5, 0), 1);
         int[][] none = {{3, 0, 0, 1, 1, 0}, {0, 1, 0, 1, 1, 0}, {0, 0, 3, 1, 1, 0}, {0, 0, 0, 0, 1, 0},
             {0, 0, 0, 1, 0, 0}, {0, 0, 0, 1, 7, 0}, {0, 0, 0, 167, 6, 0}, {0, 0, 0, 1, 1, -1}, {0, 0, 0, 1, 1, 101},
@@ -619,6 +666,10 @@ public final class PromisesTest {
         guess(x, "y:a*t+b");
         int rolled = sheet(x, 10, 30, 60);
         int nought = sheet(x, 0);
+        due(31, "all pairs without a", x.found(nought, 0, 0, 0, 1, NONE), 31);
+        due(31, "the first of all", x.found(nought, 0, 0, 0, 1, 0), 0);
+        due(31, "0 and 0 alone", x.found(nought, 2, 0, 0, 1, NONE), 1);
+        due(32, "the first of all", x.most(nought, 2, 0, 0, 1, 0), 0);
         int even = sheet(x, 7, 13, 19, 26);
         int empty = sheet(x);
         due(31, "five and any", x.found(rolled, 0, 0, 0, 1, NONE), 31);
@@ -632,6 +683,10 @@ public final class PromisesTest {
         due(32, "but three of four", x.most(even, 2, 0, 0, 1, 1), 7);
         due(32, "by 6 and 1", x.most(even, 2, 0, 0, 1, 0), 6 * 31 + 1);
         due(32, "one off", x.most(even, 2, 0, 0, 1, 2), 1);
+        int ones = sheet(x, 1, 1, 2, 2);
+        due(32, "two of four, the first such pair", x.most(ones, 2, 0, 0, 1, 0), 1);
+        due(32, "the first two", x.most(ones, 2, 0, 0, 1, 1), 3);
+        due(32, "two off", x.most(ones, 2, 0, 0, 1, 2), 2);
         due(32, "by steps of three: 2 and 1", x.most(even, 2, 0, 0, 3, 0), 2 * 31 + 1);
         due(32, "a missing worth does not work", x.most(nought, 1, 0, 0, 1, 1), 0);
         due(32, "it is the first pair then", x.most(nought, 1, 0, 0, 1, 0), 0);
@@ -639,7 +694,7 @@ public final class PromisesTest {
         due(32, "a missing worth is off as 0", x.most(rolled, 1, 0, 0, 80, 2), 100);
         due(32, "nothing such", x.most(rolled, 0, 0, 0, 1, 3), NONE);
         due(32, "nothing such", x.most(rolled, 0, 0, 0, 1, -1), NONE);
-        int[][] none = {{4, 0, 0, 0, 1}, {-1, 0, 0, 0, 1}, {rolled, 3, 0, 0, 1}, {rolled, 0, 1, 0, 1},
+        int[][] none = {{5, 0, 0, 0, 1}, {-1, 0, 0, 0, 1}, {rolled, 3, 0, 0, 1}, {rolled, 0, 1, 0, 1},
             {rolled, 0, 0, 1, 1}, {rolled, 0, 0, 0, 0}, {rolled, 0, 0, 0, 81}, {empty, 0, 0, 0, 1}};
         for (int[] n : none) {
             due(31, "no such ones", x.found(n[0], n[1], n[2], n[3], n[4], NONE), NONE);
@@ -693,6 +748,7 @@ public final class PromisesTest {
         x.write(2, 1000000);
         due(34, "very far", x.rolls(2, 0), 100);
         due(34, "very far", x.rolls(2, 1), 100);
+        x.write(2, NONE);
         due(34, "nothing such", x.rolls(0, 2), NONE);
         due(34, "nothing such", x.rolls(0, -1), NONE);
         due(34, "no such law", x.rolls(3, 0), NONE);
