@@ -332,6 +332,10 @@ public final class PromisesTest {
             due(15, "trial", x.trial(0, 0, 0, 5, 0, 1, 0), i);
         }
         due(15, "a thirty-first trial", x.trial(0, 0, 0, 5, 0, 1, 0), NONE);
+        due(16, "no such trial", refusesTold(x, 30, 0), true);
+        due(18, "no such trial", x.write(30, 5), false);
+        law(x, "g:1");
+        due(17, "no such trial", x.is(0, 30), NONE);
     }
 
     private static void truths() {
@@ -655,6 +659,12 @@ public final class PromisesTest {
         due(30, "no such sheet", x.number(10, 5), NONE);
         due(30, "no such sheet", x.number(-1, 5), NONE);
         due(30, "on another sheet", x.number(0, 5), 1);
+        x.ball(1, 1);
+        x.beam(10, 1, 1);
+        guess(x, "y:1");
+        due(31, "no such sheet", x.found(10, 0, 0, 0, 1, NONE), NONE);
+        due(31, "an empty one", x.found(8, 0, 0, 0, 1, NONE), NONE);
+        due(31, "a full one", x.found(9, 0, 0, 0, 80, NONE), 0);
         due(38, "sheets", x.count(6), 10);
         due(38, "numbers on sheets", x.count(7), 13);
     }
