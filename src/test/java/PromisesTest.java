@@ -17,27 +17,6 @@ public final class PromisesTest {
         due(promise, what, got ? 1 : 0, want ? 1 : 0);
     }
 
-    private static void put(GrooveHouse x, String text) {
-        x.end(0);
-        for (int at = 0; at < text.length(); at += 20) {
-            int[] n = new int[5];
-            for (int i = 0; i < 20 && at + i < text.length(); i++) {
-                n[i / 4] |= text.charAt(at + i) << 24 - 8 * (i % 4);
-            }
-            x.feed(n[0], n[1], n[2], n[3], n[4]);
-        }
-    }
-
-    private static int law(GrooveHouse x, String text) {
-        put(x, text);
-        return x.law();
-    }
-
-    private static int guess(GrooveHouse x, String text) {
-        put(x, text);
-        return x.guess();
-    }
-
     /** A house with a ball of size 3 and weight 7 and a beam of 100 hairs, slope 12, roughness 2: ways 10 30 60 100. */
     private static GrooveHouse furnished() {
         GrooveHouse x = new GrooveHouse();
@@ -51,7 +30,7 @@ public final class PromisesTest {
         GrooveHouse x = furnished();
         x.beam(12000, 20, 4);
         for (int i = 0; i < laws.length; i++) {
-            due(7, laws[i], law(x, laws[i]), i);
+            due(7, laws[i], Texts.law(x, laws[i]), i);
         }
         return x;
     }
@@ -117,7 +96,7 @@ public final class PromisesTest {
 
     private static void fault(String text, int sort, int want) {
         GrooveHouse x = new GrooveHouse();
-        put(x, text);
+        Texts.put(x, text);
         due(6, "fault(" + sort + ") of '" + text + "'", x.fault(sort), want);
         due(6, "the tape stays", x.count(8), text.length());
     }
@@ -169,23 +148,23 @@ public final class PromisesTest {
     private static void lawsAndGuesses() {
         GrooveHouse x = new GrooveHouse();
         due(7, "an empty tape", x.law(), NONE);
-        put(x, "y:a");
+        Texts.put(x, "y:a");
         due(7, "a guess is no law", x.law(), NONE);
         due(7, "the tape stays", x.count(8), 3);
         due(8, "it is a guess", x.guess(), 0);
         due(8, "the tape is empty", x.count(8), 0);
         due(8, "an empty tape", x.guess(), NONE);
         for (int i = 0; i < 8; i++) {
-            due(7, "law", law(x, "g:1"), i);
+            due(7, "law", Texts.law(x, "g:1"), i);
             due(7, "the tape is empty", x.count(8), 0);
         }
-        due(7, "a ninth law", law(x, "g:1"), NONE);
+        due(7, "a ninth law", Texts.law(x, "g:1"), NONE);
         due(7, "the tape stays", x.count(8), 3);
         due(8, "a law is no guess", x.guess(), NONE);
         for (int i = 1; i < 8; i++) {
-            due(8, "guess", guess(x, "y:t"), i);
+            due(8, "guess", Texts.guess(x, "y:t"), i);
         }
-        due(8, "a ninth guess", guess(x, "y:t"), NONE);
+        due(8, "a ninth guess", Texts.guess(x, "y:t"), NONE);
         due(8, "the tape stays", x.count(8), 3);
         due(38, "laws", x.count(2), 8);
         due(38, "guesses", x.count(3), 8);
@@ -334,7 +313,7 @@ public final class PromisesTest {
         due(15, "a thirty-first trial", x.trial(0, 0, 0, 5, 0, 1, 0), NONE);
         due(16, "no such trial", refusesTold(x, 30, 0), true);
         due(18, "no such trial", x.write(30, 5), false);
-        law(x, "g:1");
+        Texts.law(x, "g:1");
         due(17, "no such trial", x.is(0, 30), NONE);
     }
 
@@ -392,9 +371,9 @@ public final class PromisesTest {
 
     private static void values() {
         GrooveHouse x = furnished();
-        guess(x, "y:t*9000+s*1000+r*100+w*10+z+a-b");
-        guess(x, "y:t<5?1");
-        guess(x, "y:t*9999");
+        Texts.guess(x, "y:t*9000+s*1000+r*100+w*10+z+a-b");
+        Texts.guess(x, "y:t<5?1");
+        Texts.guess(x, "y:t*9999");
         due(19, "all letters", x.value(0, 30, 4, 0, 0, 1), 9000 + 12000 + 200 + 70 + 3 + 30 - 4);
         due(19, "there is one", x.value(1, 0, 0, 0, 0, 4), 1);
         due(19, "there is none", x.value(1, 0, 0, 0, 0, 5), HIDDEN);
@@ -410,9 +389,9 @@ public final class PromisesTest {
 
     private static void fits() {
         GrooveHouse x = furnished();
-        guess(x, "y:a+b");
-        guess(x, "y:t=3?a");
-        guess(x, "y:a*2+b*2+100");
+        Texts.guess(x, "y:a+b");
+        Texts.guess(x, "y:t=3?a");
+        Texts.guess(x, "y:a*2+b*2+100");
         x.trial(0, 0, 0, 5, 0, 1, 0);
         due(20, "nothing written", x.fits(0, NONE), 961);
         due(20, "one asked for first", x.fits(1, 7), 7);
@@ -462,7 +441,7 @@ public final class PromisesTest {
 
     private static void fitsOfSeveral() {
         GrooveHouse x = furnished();
-        guess(x, "y:a*t+b");
+        Texts.guess(x, "y:a*t+b");
         x.trial(0, 0, 0, 20, 0, 1, 1);
         x.trial(0, 0, 0, 50, 0, 1, 0);
         x.trial(1, 0, 0, 50, 5, 1, 0);
@@ -481,7 +460,7 @@ public final class PromisesTest {
         GrooveHouse x = furnished();
         String[] texts = {"y:t*t", "y:10", "y:t=2?7", "y:3", "y:a", "y:0-9999*9999", "y:9999*9999"};
         for (String text : texts) {
-            guess(x, text);
+            Texts.guess(x, text);
         }
         int[][] due = {{0, 1, 5, 5, 15}, {0, 1, 4, 1, 9}, {1, 0, 4, 1, 9}, {2, 3, 9, 2, 4}, {3, 2, 1, 1, 3},
             {1, 3, 1000, 1, 7}, {0, 0, 9, 1, 0}, {0, 3, 1000, 1000, 1000000 - 3}, {5, 6, 2, 1, 2000000}};
@@ -498,7 +477,7 @@ public final class PromisesTest {
         x.write(0, 5);
         due(23, "by the first fit", x.parts(0, 4, 0, 0, 9, 1), 81 - 25);
         due(23, "at", x.parts(0, 4, 0, 0, 9, 0), 9);
-        guess(x, "y:a*t+b");
+        Texts.guess(x, "y:a*t+b");
         due(23, "the first fit is 0 and 25", x.parts(7, 7, 0, 0, 9, 1), 0);
         due(23, "the first fit is 0 and 25", x.parts(7, 0, 0, 0, 10, 1), 75);
         due(23, "the first fit is 0 and 25", x.parts(0, 7, 0, 0, 5, 1), 24);
@@ -510,7 +489,7 @@ public final class PromisesTest {
         GrooveHouse x = ruled("g:s-r", "g:t=0?1;g:0", "g:0");
         String[] texts = {"y:20*t", "y:t", "y:t=3?60;y:t=60?60", "y:a*4+b"};
         for (String text : texts) {
-            guess(x, text);
+            Texts.guess(x, text);
         }
         due(24, "without trials in all", x.worlds(0, 0, 0), 7);
         x.trial(1, 0, 0, 77, 5, 1, 0);
@@ -524,7 +503,7 @@ public final class PromisesTest {
         due(24, "by every trial", x.worlds(0, 0, 0), 1);
         due(24, "one without worth", x.worlds(2, 0, 0), 0);
         GrooveHouse y = ruled("g:10");
-        guess(y, "y:a");
+        Texts.guess(y, "y:a");
         y.trial(0, 0, 0, 60, 0, 1, 0);
         due(24, "one trial", y.worlds(0, 30, 0), 0);
         due(24, "no such guess", x.worlds(4, 0, 0), NONE);
@@ -535,9 +514,9 @@ public final class PromisesTest {
     /** Three guesses: the first is wrong at 30 and 100, the second at 60 and 100, the third nowhere. */
     private static GrooveHouse guessed() {
         GrooveHouse x = ruled("g:10", "g:0");
-        guess(x, "y:t=2?0;y:t=1?10;y:60");
-        guess(x, "y:t=3?0;y:t=1?10;y:30");
-        guess(x, "y:t*[t+1]*[5+a]");
+        Texts.guess(x, "y:t=2?0;y:t=1?10;y:60");
+        Texts.guess(x, "y:t=3?0;y:t=1?10;y:30");
+        Texts.guess(x, "y:t*[t+1]*[5+a]");
         return x;
     }
 
@@ -588,19 +567,19 @@ public final class PromisesTest {
         y.trial(0, 0, 0, 60, 0, 5, 0);
         cheap(y, "the lower one alone", 1, 10, 2);
         GrooveHouse z = furnished();
-        law(z, "g:10");
+        Texts.law(z, "g:10");
         due(26, "no guesses", z.cheapest(0, 0), NONE);
-        guess(z, "y:1");
+        Texts.guess(z, "y:1");
         cheap(z, "one guess", 0, 0, 0);
-        law(z, "g:0");
+        Texts.law(z, "g:0");
         z.trial(0, 0, 0, 10, 0, 3, 0);
-        guess(z, "y:a+b+t");
+        Texts.guess(z, "y:a+b+t");
         due(26, "both are refuted, 0 and 0 are pinned", z.cheapest(0, 0), NONE);
         z.pin(1, 4, 5);
         cheap(z, "but not by 4 and 5", 1, 3, 1);
         due(26, "what does not click refutes nothing", z.cheapest(1, 0), NONE);
         z.pin(1, 0, 0);
-        guess(z, "y:10-a");
+        Texts.guess(z, "y:10-a");
         cheap(z, "a third, by 0 and 0 again", 1, 3, 2);
     }
 
@@ -661,7 +640,7 @@ public final class PromisesTest {
         due(30, "on another sheet", x.number(0, 5), 1);
         x.ball(1, 1);
         x.beam(10, 1, 1);
-        guess(x, "y:1");
+        Texts.guess(x, "y:1");
         due(31, "no such sheet", x.found(10, 0, 0, 0, 1, NONE), NONE);
         due(31, "an empty one", x.found(8, 0, 0, 0, 1, NONE), NONE);
         due(31, "a full one", x.found(9, 0, 0, 0, 80, NONE), 0);
@@ -671,9 +650,9 @@ public final class PromisesTest {
 
     private static void found() {
         GrooveHouse x = furnished();
-        guess(x, "y:a*t*[t+1]");
-        guess(x, "y:t=5?1");
-        guess(x, "y:a*t+b");
+        Texts.guess(x, "y:a*t*[t+1]");
+        Texts.guess(x, "y:t=5?1");
+        Texts.guess(x, "y:a*t+b");
         int rolled = sheet(x, 10, 30, 60);
         int nought = sheet(x, 0);
         due(31, "all pairs without a", x.found(nought, 0, 0, 0, 1, NONE), 31);
@@ -715,8 +694,8 @@ public final class PromisesTest {
 
     private static void well() {
         GrooveHouse x = furnished();
-        guess(x, "y:a*t+b");
-        guess(x, "y:0");
+        Texts.guess(x, "y:a*t+b");
+        Texts.guess(x, "y:0");
         int good = sheet(x, 3, 6, 9);
         int near = sheet(x, 0, 1);
         int full = sheet(x, 999, 0, 999, 0, 999, 0, 999, 0, 999, 0, 999, 0);
@@ -769,7 +748,7 @@ public final class PromisesTest {
         x.ball(10, 1);
         x.ball(5, 1);
         x.ball(20, 1);
-        law(x, "d:z=20?0;d:z>9?20");
+        Texts.law(x, "d:z=20?0;d:z>9?20");
         int[][] due = {{0, 1, 0, 0, 1}, {1, 0, 0, 0, 2}, {0, 1, 1, 0, 0}, {0, 1, 2, 0, 2}, {0, 1, 1000, 1000, 1},
             {0, 1, 1000, 999, 0}, {0, 0, 5, 5, 0}, {0, 2, 0, 0, NONE}, {2, 0, 0, 0, NONE}, {0, 3, 0, 0, NONE},
             {-1, 0, 0, 0, NONE}, {0, 1, -1, 0, NONE}, {0, 1, 0, -1, NONE}, {0, 1, 1001, 0, NONE}, {0, 1, 0, 1001, NONE}};
@@ -795,10 +774,10 @@ public final class PromisesTest {
         x.beam(100, 10, 0);
         x.beam(100, 17, 0);
         x.beam(50, 12, 9);
-        law(x, "g:s-r");
-        law(x, "g:s*s/7");
-        law(x, "g:100-s*s/7;d:3");
-        law(x, "g:s=10?9999;g:0");
+        Texts.law(x, "g:s-r");
+        Texts.law(x, "g:s*s/7");
+        Texts.law(x, "g:100-s*s/7;d:3");
+        Texts.law(x, "g:s=10?9999;g:0");
         int[][] due = {{0, 0, 1, 3, 588, 528}, {0, 1, 0, 3, 588, 528}, {0, 0, 1, 0, 0, 0}, {1, 2, 3, 1, 14 + 347, 351},
             {2, 2, 3, 1, 86 - 347, -264}, {3, 0, 2, 1000, -439999956, -439999956 - 5005000}};
         for (int[] d : due) {
