@@ -501,6 +501,12 @@ public final class BoundsTest {
         written(1000000, 961);
         Twins.Scene none = with(x -> x.write(0, 4));
         let(20, "no fits", none, x -> x.fits(1, NONE), 0);
+        let(20, "asked before and behind", BoundsTest::furnish,
+                x -> 1000 * x.fits(1, NONE) + bool(x.write(0, 4)) * x.fits(1, NONE), 961000);
+        let(20, "asked before and behind it is not written any more", none,
+                x -> 1000 * x.fits(1, NONE) + bool(x.write(0, NONE)) * x.fits(1, NONE), 961);
+        let(20, "one of a few asked before", none,
+                x -> 1000 * (x.fits(1, 0) + 1) + bool(x.write(0, 3)) * x.fits(1, 960), 960);
         refused(20, "the first of none", none, x -> x.fits(1, 0), NONE);
         range(21, "guess", (x, v) -> x.span(v, 0), at(0, 10), at(1, 0), NONE);
         range(21, "what", (x, v) -> x.span(0, v), at(0, 10), at(3, 30), NONE);
@@ -577,6 +583,13 @@ public final class BoundsTest {
         range(25, "guess", (x, v) -> bool(x.pin(v, 1, 1)), at(0, YES), at(1, YES), NO);
         range(25, "a", (x, v) -> bool(x.pin(0, v, 1)), at(0, YES), at(30, YES), NO);
         range(25, "b", (x, v) -> bool(x.pin(0, 1, v)), at(0, YES), at(30, YES), NO);
+        Twins.Scene sixty = with(x -> Texts.guess(x, "y:a+b"));
+        let(25, "0 and 0 at first, refuted by trial 0", sixty, x -> x.cheapest(0, 0), 8 + 1);
+        let(25, "30 and 30", sixty, x -> bool(x.pin(2, 30, 30)) * x.cheapest(0, 0), NONE);
+        let(25, "30 and 30, and another for guess 0", sixty,
+                x -> bool(x.pin(2, 30, 30)) * bool(x.pin(0, 0, 0)) * x.cheapest(0, 2), 2);
+        let(25, "the latest pair", sixty,
+                x -> bool(x.pin(2, 30, 30)) * bool(x.pin(2, 30, 29)) * bool(x.pin(0, 0, 0)) * x.cheapest(0, 2), 1);
     }
 
     /** Twenty thrown trials between ten clicked ones, of which the tenth alone parts the guesses; its number is 29. */
@@ -693,6 +706,8 @@ public final class BoundsTest {
         for (int[] w : wraps) {
             refused(28, "step and i that wrap", BoundsTest::furnish, x -> x.ear(0, 0, 0, w[0], w[1], 0, 0), NONE);
         }
+        refused(28, "steps of 0", BoundsTest::furnish, x -> x.ear(0, 0, 0, 0, 1, 5, 0), NONE);
+        refused(28, "string 0", BoundsTest::furnish, x -> x.ear(0, 0, 0, 1, 0, 5, 0), NONE);
         let(28, "the last place, in its tick", BoundsTest::furnish, x -> x.ear(0, 0, 0, 4, 1, 0, 1), 100);
         refused(28, "no place is left behind it", BoundsTest::furnish, x -> x.ear(0, 0, 0, 5, 1, 0, 1), NONE);
         let(28, "but with an ear", BoundsTest::furnish, x -> x.ear(0, 0, 0, 5, 1, 1, 0), 61);
@@ -749,6 +764,10 @@ public final class BoundsTest {
             refused(32, "an empty sheet", BoundsTest::furnish, x -> x.most(1, 0, 0, 0, 1, of), NONE);
             refused(33, "an empty sheet", BoundsTest::furnish, x -> x.well(1, 0, 0, 0, 1, 1, of), NONE);
         }
+        let(31, "0 and 0 are found", with(x -> x.number(1, 0)), x -> x.found(1, 0, 0, 0, 1, 0), 0);
+        let(31, "30 and 30 are found", with(x -> x.number(1, 60)), x -> x.found(1, 0, 0, 0, 1, 0), 960);
+        let(32, "30 and 30 work", with(x -> x.number(1, 60)), x -> x.most(1, 0, 0, 0, 1, 0), 960);
+        let(32, "0 and 1 work", with(x -> x.number(1, 1)), x -> x.most(1, 0, 0, 0, 1, 0), 1);
         fullSheet();
         rows();
     }
@@ -828,6 +847,13 @@ public final class BoundsTest {
         rolled(0, 1, 0, 16);
         rolled(1, 0, 9, 16);
         rolled(60, 50, 84, 924);
+        let(34, "the first trial counts", x -> {
+            x.ball(1, 1);
+            x.beam(100, 10, 0);
+            Texts.law(x, "g:10");
+            x.trial(2, 0, 0, 60, 0, 1, 0);
+            x.write(0, 120);
+        }, x -> x.rolls(0, 0), 1000);
         let(34, "without far nothing binds", BoundsTest::furnish, x -> x.rolls(1, 1) - x.rolls(1, 0), 1000);
         let(34, "nothing thrown is written", with(x -> x.write(2, NONE)), x -> x.rolls(0, 1) - x.rolls(0, 0), 1000);
     }
@@ -891,6 +917,110 @@ public final class BoundsTest {
         let(37, "cut towards 0 from below", steep, x -> x.drawn(5, 0, 2, 1, 1, 0), 3 - 15);
     }
 
+    /**
+     * As many of all as there may be: ball i weighs i and 1, beam i has slope 10 and i and length 100 and i, law i adds
+     * i times the slope to the weight, sheet i holds the number i, and trial 0 leaves guess 7 alone.
+     */
+    private static void fill(GrooveHouse x) {
+        for (int i = 0; i < 8; i++) {
+            x.ball(1, i + 1);
+            Texts.law(x, "g:w+s*" + i + ";d:w+" + i + ";q:1+" + i);
+            Texts.guess(x, i == 7 ? "y:a*t+b+w*100+s" : "y:a*t+b+" + i);
+        }
+        for (int i = 0; i < 6; i++) {
+            x.beam(100 + i, 10 + i, 0);
+        }
+        for (int i = 0; i < 30; i++) {
+            x.trial(i % 3, i % 8, i % 6, 100, 5, 1, 50);
+        }
+        for (int i = 0; i < 10; i++) {
+            x.number(x.sheet(), i);
+        }
+    }
+
+    private static void index(int promise, String what, Edge edge, int[] first, int[] last, long refusal) {
+        range(promise, what + " of as many as may be", BoundsTest::fill, edge, first, last, refusal);
+    }
+
+    private static void fullOfLawsAndBalls() {
+        index(9, "law", (x, v) -> bool(x.roll(v, 5)), at(0, YES), at(7, YES), NO);
+        index(10, "law", (x, v) -> x.way(v, 7, 5, 1), at(0, 8), at(7, 113), NONE);
+        index(10, "ball", (x, v) -> x.way(7, v, 5, 1), at(0, 106), at(7, 113), NONE);
+        index(10, "beam", (x, v) -> x.way(7, 7, v, 1), at(0, 78), at(5, 113), NONE);
+        index(11, "law", (x, v) -> x.speed(v, 7, 5, 2), at(0, 16), at(7, 226), NONE);
+        index(11, "ball", (x, v) -> x.speed(7, v, 5, 2), at(0, 212), at(7, 226), NONE);
+        index(11, "beam", (x, v) -> x.speed(7, 7, v, 2), at(0, 156), at(5, 226), NONE);
+        index(12, "law", (x, v) -> x.click(v, 7, 5, 100), at(0, 5), at(7, 1), NONE);
+        index(12, "ball", (x, v) -> x.click(0, v, 5, 100), at(0, 14), at(7, 5), NONE);
+        index(12, "beam", (x, v) -> x.click(7, 7, v, 100), at(0, 2), at(5, 1), NONE);
+        index(13, "law", (x, v) -> x.fall(v, 7, 100), at(0, 5), at(7, 4), NONE);
+        index(13, "ball", (x, v) -> x.fall(0, v, 100), at(0, 14), at(7, 5), NONE);
+        index(14, "law", (x, v) -> x.cup(v, 100, 3), at(0, 3), at(7, 24), NONE);
+        index(16, "trial", (x, v) -> x.told(v, 0), at(0, 0), at(29, 2), Twins.THROWS);
+        index(17, "law", (x, v) -> x.is(v, 0), at(0, 14), at(7, 2), NONE);
+        index(17, "trial", (x, v) -> x.is(0, v), at(0, 14), at(29, 216), NONE);
+        index(18, "trial", (x, v) -> bool(x.write(v, 5)), at(0, YES), at(29, YES), NO);
+        index(27, "law", (x, v) -> x.odd(v, 0, 0, 1, 2, 1), at(0, 2), at(7, 1), NONE);
+        index(27, "ball", (x, v) -> x.odd(0, v, 0, 1, 2, 1), at(0, 2), at(7, 1), NONE);
+        index(27, "beam", (x, v) -> x.odd(7, 0, v, 1, 2, 71), at(0, 2), at(5, 1), NONE);
+        index(28, "law", (x, v) -> x.ear(v, 0, 0, 1, 1, 0, 1), at(0, 1), at(7, 71), NONE);
+        index(28, "ball", (x, v) -> x.ear(0, v, 0, 1, 1, 0, 1), at(0, 1), at(7, 8), NONE);
+        index(28, "beam", (x, v) -> x.ear(7, 0, v, 1, 1, 0, 1), at(0, 71), at(5, 105), NONE);
+        index(34, "law", (x, v) -> x.rolls(v, 1), at(0, 1000), at(7, 1000), NONE);
+        index(35, "law", (x, v) -> x.tower(v, 0, 7, 100, 0, 0), at(0, 2), at(7, 2), NONE);
+        index(35, "one", (x, v) -> x.tower(0, v, 7, 100, 0, 0), at(0, 2), at(7, 0), NONE);
+        index(35, "the other", (x, v) -> x.tower(0, 7, v, 100, 0, 0), at(0, 1), at(7, 0), NONE);
+        index(36, "law", (x, v) -> x.hands(v, 0, 7, 100, 1, 2), at(0, 1), at(7, 1), NONE);
+        index(36, "one", (x, v) -> x.hands(0, v, 7, 100, 1, 0), at(0, 0), at(7, 1), NONE);
+        index(36, "the other", (x, v) -> x.hands(0, 7, v, 100, 1, 0), at(0, 0), at(7, 1), NONE);
+        index(37, "law", (x, v) -> x.drawn(v, 7, 0, 5, 1, 0), at(0, 8), at(7, 708), HIDDEN);
+        index(37, "ball", (x, v) -> x.drawn(7, v, 0, 5, 1, 0), at(0, 701), at(7, 708), HIDDEN);
+        index(37, "one", (x, v) -> x.drawn(7, 0, v, 4, 1, 0), at(0, 701), at(5, 701), HIDDEN);
+        index(37, "the other", (x, v) -> x.drawn(7, 0, 4, v, 1, 0), at(0, 701), at(5, 701), HIDDEN);
+    }
+
+    private static void fullOfGuessesAndSheets() {
+        index(19, "guess", (x, v) -> x.value(v, 0, 0, 0, 0, 0), at(0, 0), at(7, 110), HIDDEN);
+        index(19, "ball", (x, v) -> x.value(7, 0, 0, v, 0, 0), at(0, 110), at(7, 810), HIDDEN);
+        index(19, "beam", (x, v) -> x.value(7, 0, 0, 0, v, 0), at(0, 110), at(5, 115), HIDDEN);
+        index(20, "guess", (x, v) -> x.fits(v, NONE), at(0, 961), at(7, 961), NONE);
+        index(21, "guess", (x, v) -> x.span(v, 1), at(0, 30), at(7, 30), NONE);
+        index(23, "one", (x, v) -> x.parts(v, 0, 0, 0, 1, 1), at(0, 0), at(7, 110), NONE);
+        index(23, "the other", (x, v) -> x.parts(0, v, 0, 0, 1, 1), at(0, 0), at(7, 110), NONE);
+        index(23, "ball", (x, v) -> x.parts(0, 7, v, 0, 1, 1), at(0, 110), at(7, 810), NONE);
+        index(23, "beam", (x, v) -> x.parts(0, 7, 0, v, 1, 1), at(0, 110), at(5, 115), NONE);
+        index(24, "guess", (x, v) -> x.worlds(v, 0, 0), at(0, 0), at(7, 0), NONE);
+        index(25, "guess", (x, v) -> bool(x.pin(v, 1, 1)), at(0, YES), at(7, YES), NO);
+        index(26, "law", (x, v) -> x.cheapest(v, 2), at(0, 7), at(7, 7), NONE);
+        index(30, "sheet", (x, v) -> x.number(v, 5), at(0, 2), at(9, 2), NONE);
+        index(31, "sheet", (x, v) -> x.found(v, 0, 0, 0, 1, NONE), at(0, 1), at(9, 10), NONE);
+        index(31, "guess", (x, v) -> x.found(9, v, 0, 0, 1, NONE), at(0, 10), at(7, 0), NONE);
+        index(31, "ball", (x, v) -> x.found(9, 0, v, 0, 1, NONE), at(0, 10), at(7, 10), NONE);
+        index(31, "beam", (x, v) -> x.found(9, 0, 0, v, 1, NONE), at(0, 10), at(5, 10), NONE);
+        index(32, "sheet", (x, v) -> x.most(v, 0, 0, 0, 1, 0), at(0, 0), at(9, 9), NONE);
+        index(32, "guess", (x, v) -> x.most(9, v, 0, 0, 1, 2), at(0, 0), at(7, 101), NONE);
+        index(32, "ball", (x, v) -> x.most(9, 7, v, 0, 1, 2), at(0, 101), at(7, 801), NONE);
+        index(32, "beam", (x, v) -> x.most(9, 7, 0, v, 1, 2), at(0, 101), at(5, 106), NONE);
+        index(33, "sheet", (x, v) -> x.well(v, 7, 0, 0, 1, 9, 0), at(0, 19), at(9, 19), NONE);
+        index(33, "guess", (x, v) -> x.well(9, v, 0, 0, 1, 9, 0), at(0, 1), at(7, 19), NONE);
+        index(33, "ball", (x, v) -> x.well(9, 7, v, 0, 1, 9, 1), at(0, 19), at(7, 19), NONE);
+        index(33, "beam", (x, v) -> x.well(9, 7, 0, v, 1, 9, 1), at(0, 19), at(5, 19), NONE);
+        Twins.Call[] more = {
+            x -> x.ball(1, 1), x -> x.beam(10, 1, 1), x -> Texts.law(x, "g:1") + x.fault(0), x -> x.sheet(),
+            x -> x.trial(0, 0, 0, 1, 0, 1, 0),
+        };
+        int[] none = {NONE, NONE, NONE + NONE, NONE, NONE};
+        for (int i = 0; i < more.length; i++) {
+            let(38, "one more of what there are as many as may be", BoundsTest::fill, more[i], none[i]);
+        }
+        int[] counts = {8, 6, 8, 8, 30, 0, 10, 10, 0};
+        for (int what = 0; what <= 8; what++) {
+            int of = what;
+            let(38, "count(" + what + ") of a full house", BoundsTest::fill, x -> x.count(of), counts[what]);
+        }
+        let(22, "all are left", BoundsTest::fill, x -> x.left(), 255);
+    }
+
     private static void counts() {
         range(38, "what", (x, v) -> x.count(v), at(0, 2), at(8, 5), NONE);
         int[] rich = {2, 2, 3, 2, 4, 2, 3, 4, 5};
@@ -926,6 +1056,8 @@ public final class BoundsTest {
         rolls();
         towers();
         drawn();
+        fullOfLawsAndBalls();
+        fullOfGuessesAndSheets();
         counts();
         System.out.println(wrong == 0 ? "all " + checks + " bounds hold" : wrong + " of " + checks + " do not hold");
         if (wrong != 0) {
