@@ -83,9 +83,8 @@ public final class GrooveHouse {
     private int guessCount = 0;
     private int trialCount = 0;
     private int sheetCount = 0;
-    private final int[] tape = new int[MOST_BYTES];
+    private final Reader reader = new Reader();
     private int tapeSize = 0;
-    private final Reader reader = new Reader(tape);
     private final Reckoner reckoner = new Reckoner();
     private final Choice choice = new Choice();
     private final long[] rowsBySum = new long[MOST_NUMBERS * MOST_ERROR + 1];
@@ -611,7 +610,7 @@ public final class GrooveHouse {
         for (int shift = 24; shift >= 0; shift -= 8) {
             int next = number >>> shift & 255;
             if (next != 0 && tapeSize < MOST_BYTES) {
-                tape[tapeSize] = next;
+                reader.tape[tapeSize] = next;
                 tapeSize++;
             }
         }
@@ -1107,7 +1106,7 @@ public final class GrooveHouse {
 
     /** Reads a text from the left, one byte ahead: it stops at the first byte at which no text can go on. */
     private static final class Reader {
-        private final int[] bytes;
+        final int[] tape = new int[MOST_BYTES];
         private int length = 0;
         private int at = 0;
         private String labels = LAW_LABELS;
@@ -1120,13 +1119,9 @@ public final class GrooveHouse {
         private final int[] endOf = new int[MOST_CLAUSES];
         private int clauseCount = 0;
 
-        Reader(int[] bytes) {
-            this.bytes = bytes;
-        }
-
-        /** The FAULT of the first so many bytes as a text of a sort; NONE if they are one. */
+        /** The FAULT of the first so many bytes of the tape as a text of a sort; NONE if they are one. */
         int faultOf(int size, int sort) {
-            length = Math.min(size, bytes.length);
+            length = Math.min(size, tape.length);
             at = 0;
             labels = sort == LAW_SORT ? LAW_LABELS : GUESS_LABELS;
             letters = sort == LAW_SORT ? LAW_LETTERS : GUESS_LETTERS;
@@ -1157,10 +1152,10 @@ public final class GrooveHouse {
 
         /** The next byte behind blanks; 0, which no tape holds, at the end. */
         private int ahead() {
-            while (at < length && bytes[at] == ' ') {
+            while (at < length && tape[at] == ' ') {
                 at++;
             }
-            return at < length ? bytes[at] : 0;
+            return at < length ? tape[at] : 0;
         }
 
         private boolean pass(int sign) {
@@ -1339,11 +1334,11 @@ public final class GrooveHouse {
         private boolean readNumber() {
             int number = 0;
             int start = at;
-            while (at < length && bytes[at] >= '0' && bytes[at] <= '9') {
+            while (at < length && tape[at] >= '0' && tape[at] <= '9') {
                 if (at - start == MOST_DIGITS) {
                     return false;
                 }
-                number = 10 * number + bytes[at] - '0';
+                number = 10 * number + tape[at] - '0';
                 at++;
             }
             put(number);
