@@ -456,6 +456,28 @@ public final class PromisesTest {
         due(20, "others do not count", x.fits(0, NONE), 1);
     }
 
+    /** A place and a number that a or b would have to be 31 for: no pair goes so far. */
+    private static void noPairBeyondThirty() {
+        GrooveHouse x = furnished();
+        Texts.guess(x, "y:a");
+        Texts.guess(x, "y:b");
+        x.trial(0, 0, 0, 31, 0, 1, 0);
+        x.write(0, 1);
+        int sheet = x.sheet();
+        x.number(sheet, 31);
+        due(22, "none is left", x.left(), 0);
+        for (int guess = 0; guess < 2; guess++) {
+            due(20, "no fits", x.fits(guess, NONE), 0);
+            due(20, "no first fit", x.fits(guess, 0), NONE);
+            due(21, "no span", x.span(guess, 1), NONE);
+            due(31, "none found", x.found(sheet, guess, 0, 0, 1, NONE), 0);
+            due(31, "no first one", x.found(sheet, guess, 0, 0, 1, 0), NONE);
+            due(32, "the first pair works as little as any", x.most(sheet, guess, 0, 0, 1, 0), 0);
+            due(32, "nothing worked", x.most(sheet, guess, 0, 0, 1, 1), 0);
+            due(32, "all of it is off", x.most(sheet, guess, 0, 0, 1, 2), 31);
+        }
+    }
+
     private static void parts() {
         GrooveHouse x = furnished();
         String[] texts = {"y:t*t", "y:10", "y:t=2?7", "y:3", "y:a", "y:0-9999*9999", "y:9999*9999"};
@@ -581,6 +603,21 @@ public final class PromisesTest {
         z.pin(1, 0, 0);
         Texts.guess(z, "y:10-a");
         cheap(z, "a third, by 0 and 0 again", 1, 3, 2);
+    }
+
+    private static void pinnedAtFirst() {
+        String[] open = {"a", "b"};
+        for (String number : open) {
+            GrooveHouse x = furnished();
+            Texts.law(x, "g:10");
+            x.trial(0, 0, 0, 10, 0, 3, 0);
+            Texts.guess(x, "y:9+" + number);
+            Texts.guess(x, "y:10+" + number);
+            cheap(x, number + " is 0 at first", 1, 3, 1);
+            x.pin(0, 1, 1);
+            x.pin(1, 1, 1);
+            cheap(x, number + " is 1 then", 1, 3, 0);
+        }
     }
 
     private static void strings() {
@@ -817,9 +854,11 @@ public final class PromisesTest {
         writings();
         values();
         fits();
+        noPairBeyondThirty();
         parts();
         worlds();
         cheapest();
+        pinnedAtFirst();
         strings();
         sheets();
         found();
