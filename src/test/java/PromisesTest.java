@@ -277,6 +277,24 @@ public final class PromisesTest {
         }
     }
 
+    /** Letters that are not told of what is asked are 0, whatever has been asked before. */
+    private static void untoldLetters() {
+        GrooveHouse x = ruled("g:n+1;d:n+2;q:s+r+w+z+x+v", "g:t+10;q:s+r+w+z+x+v+n/20");
+        Texts.guess(x, "y:s+r+w+z+a+b");
+        x.trial(1, 0, 0, 11, 100, 1, 0);
+        due(14, "nothing asked before", x.cup(0, 100, 1), 0);
+        due(10, "a run before", x.way(0, 0, 0, 5), 15);
+        due(14, "nothing flows", x.cup(0, 100, 5), 0);
+        due(19, "a guess before", x.value(0, 4, 5, 0, 0, 9), 12 + 2 + 7 + 3 + 4 + 5);
+        due(14, "nothing flows", x.cup(0, 100, 5), 0);
+        due(14, "5 of 100, 4 of 95, 4 of 91", x.cup(1, 100, 3), 13);
+        due(10, "water before", x.way(0, 0, 1, 5), 15);
+        due(14, "water again", x.cup(1, 100000, 1), 5000);
+        due(13, "2, 6 and 12", x.fall(0, 0, 12), 3);
+        due(17, "1, 3, 6, 10 and 15, but nothing flows", x.is(0, 0), 0);
+        due(17, "10 and 21: two ticks", x.is(1, 0), 9);
+    }
+
     private static void trials() {
         GrooveHouse x = furnished();
         int[][] none = {{3, 0, 0, 5, 0, 1, 0}, {-1, 0, 0, 5, 0, 1, 0}, {0, 1, 0, 5, 0, 1, 0}, {0, 0, 1, 5, 0, 1, 0},
@@ -849,6 +867,7 @@ public final class PromisesTest {
         ways();
         clicks();
         cups();
+        untoldLetters();
         trials();
         truths();
         writings();
